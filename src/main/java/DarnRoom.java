@@ -329,10 +329,6 @@ public final class DarnRoom {
   public int foresee(int hours, int what) throws IllegalArgumentException, IndexOutOfBoundsException {
     if (hours < 1 || hours > MAX_HOURS) throw new IllegalArgumentException();
     if (what < 0 || what > LAST_OF_FORESEE) throw new IndexOutOfBoundsException();
-    return foreseen(hours, what);
-  }
-
-  private int foreseen(int hours, int what) {
     shop.remember();
     int made = shop.goBy(hours, null);
     int answer;
@@ -348,13 +344,17 @@ public final class DarnRoom {
 
   public int advise(int hours) throws IllegalArgumentException {
     if (hours < 1 || hours > MAX_ADVISED) throw new IllegalArgumentException();
-    int most = foreseen(hours, 2);
+    int most = -1;
     int best = -1;
-    for (int i = 0; i < shop.hands.size(); i++) {
-      Hand hand = shop.hands.get(i);
-      hand.pace++;
-      int finished = foreseen(hours, 2);
-      hand.pace--;
+    // -1 is no hand: how many are done with all paces as they are has to be beaten.
+    for (int i = -1; i < shop.hands.size(); i++) {
+      Hand hand = shop.handAt(i);
+      if (hand != null) hand.pace++;
+      shop.remember();
+      shop.goBy(hours, null);
+      int finished = shop.ticketsIn(FINISHED);
+      shop.recall();
+      if (hand != null) hand.pace--;
       if (finished > most) {
         most = finished;
         best = i;
