@@ -17,10 +17,12 @@ public final class AheadTest {
     lastsPlain();
     lastsAtMost();
     lastsDarned();
+    lastsToOneHole();
     foreseen();
     foreseenFar();
     asPassed();
     changesNothing();
+    keepsTheCells();
     advisedNone();
     advisedFirst();
     advisedMost();
@@ -135,6 +137,15 @@ public final class AheadTest {
     due.is("lasts, always under a hand", held.lasts(0), -1);
   }
 
+  private static void lastsToOneHole() {
+    DarnRoom room = Due.taught("card c ply 9 yards 47 price 1;hand h needle 1 pace 9;jersey j cloth 1 elbows 0;"
+        + "ticket a for j darn 7 by 6 at 0 on 0 with c then darn 1 by 5 at 7 on 0 with c;");
+    due.is("lasts to one hole", room.lasts(0), 12);
+    room.pass(12);
+    due.is("holes then", room.jersey(0, 0), 1);
+    due.is("lasts with one hole", room.lasts(0), 0);
+  }
+
   private static void tells(DarnRoom room, int hours, int... want) {
     for (int what = 0; what < 4; what++) {
       due.is("foresee(" + hours + ", " + what + ") in hour " + room.count(0), room.foresee(hours, what), want[what]);
@@ -207,6 +218,24 @@ public final class AheadTest {
     looked.pass(60);
     plain.pass(60);
     due.is("digest() behind looking ahead and passing", looked.digest(), plain.digest());
+  }
+
+  /** The hand goes on with the cells of its step, though looking ahead went through other steps. */
+  private static void keepsTheCells() {
+    String work = "card c ply 1 yards 99 price 1;hand h needle 1 pace 1;jersey j cloth 9 elbows 0;"
+        + "ticket a for j darn 4 by 1 at 0 on 0 with c then darn 4 by 1 at 4 on 5 with c;";
+    DarnRoom looked = Due.taught(work);
+    DarnRoom plain = Due.taught(work);
+    for (int i = 0; i < 9; i++) {
+      due.is("done(0) in hour " + i, looked.done(0), 8 - Math.min(i, 8));
+      looked.foresee(6, 0);
+      looked.lasts(0);
+      looked.advise(7);
+      due.is("digest() in hour " + i, looked.digest(), plain.digest());
+      looked.pass(1);
+      plain.pass(1);
+    }
+    due.is("digest() at the end", looked.digest(), plain.digest());
   }
 
   private static String advisable(int cellsOfJ, int cellsOfK) {

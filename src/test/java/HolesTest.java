@@ -22,6 +22,8 @@ public final class HolesTest {
       due.refuses(room, "patch(" + i + ")", NO_INDEX, () -> room.patch(i));
     }
     shapes();
+    patchAlone();
+    drawn();
     due.end("HolesTest");
   }
 
@@ -76,5 +78,59 @@ public final class HolesTest {
     // Left are the holes (1, 0), (0, 1), (2, 1): beside each other only by their corners.
     due.is("holes", worn.jersey(0, 0), 3);
     tells(worn, "holes at corners", 1, 1011);
+  }
+
+  /** Neither of the two calls may lean on the other one ahead of it. */
+  private static void patchAlone() {
+    DarnRoom room = Due.taught("jersey j cloth 3 elbows 2;jersey k cloth 1 elbows 0;");
+    room.wear(0, 1);
+    room.wear(1, 1);
+    due.is("patch(0) first", room.patch(0), 1222);
+    due.is("patch(1) behind it", room.patch(1), 86);
+    due.is("tear(0) behind it", room.tear(0), 4);
+    due.is("patch(1) again", room.patch(1), 86);
+    due.is("patch(0) again", room.patch(0), 1222);
+  }
+
+  /** A cloth with holes where the rows have an o, else 9 thick; the rows left out have none. */
+  static DarnRoom cloth(String... rows) {
+    StringBuilder bundle = new StringBuilder("card c ply 9 yards 999 price 1;hand h needle 1 pace 9;jersey j cloth 1 elbows 0;");
+    int steps = 0;
+    for (int y = 0; y < 6; y++) {
+      String row = y < rows.length ? rows[y] : "........";
+      for (int x = 0; x < 8; x++) {
+        int wide = 0;
+        while (x + wide < 8 && row.charAt(x + wide) == '.') wide++;
+        if (wide == 0) continue;
+        bundle.append(steps % 6 == 0 ? (steps == 0 ? "" : ";") + "ticket t" + steps + " for j" : " then");
+        bundle.append(" darn " + wide + " by 1 at " + x + " on " + y + " with c");
+        steps++;
+        x += wide;
+      }
+    }
+    DarnRoom room = Due.taught(bundle + ";");
+    while (room.count(5) > 0 || room.hand(0, 2) >= 0) room.pass(1);
+    if (room.count(0) > 11) due.say("the test's own cloth was worn meanwhile");
+    room.wear(0, 1);
+    return room;
+  }
+
+  private static void drawn() {
+    tells(cloth("o......."), "the first cell", 1, 11);
+    tells(cloth("........", "........", "........", "........", "........", ".......o"), "the last cell", 1, 7511);
+    tells(cloth("...o....", "...o....", ".ooo...."), "a way left", 5, 1033);
+    tells(cloth("o.o.....", "o.o.....", "ooo....."), "a way up", 7, 33);
+    tells(cloth(".ooo....", ".o.o....", "...oo..."), "ways right and down", 7, 1043);
+    tells(cloth(".......o", "........", "oo......", "........"), "a small one right, a greater one left", 2, 221);
+    tells(cloth("o......o", ".......o", "........", "ooo....."), "ever greater ones", 3, 331);
+    tells(cloth("o.......", "........", ".......o"), "equal ones", 1, 11);
+    tells(cloth(".o......", "o......."), "at corners", 1, 1011);
+    tells(cloth("......oo", "o......."), "the end of a row and the beginning of the next", 2, 6021);
+    tells(cloth(".......o", "o......."), "single ones there", 1, 7011);
+    DarnRoom room = cloth("........", "........", "......o.", "......o.", "......o.", "......oo");
+    tells(room, "the corner", 5, 6224);
+    due.is("teach() of another", Due.teach(room, "jersey j cloth 3 elbows 2;"), 0);
+    room.wear(0, 1);
+    tells(room, "elbows behind it", 4, 1222);
   }
 }

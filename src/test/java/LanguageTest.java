@@ -25,6 +25,7 @@ public final class LanguageTest {
     reckoning();
     joining();
     operands();
+    operandsOfTheFirst();
     due.end("LanguageTest");
   }
 
@@ -126,6 +127,11 @@ public final class LanguageTest {
     error("hand h needle 1 pace 1;;", 1, 23);
     error("hand h pace 1 needle 1;", 1, 7);
     error("hand hand needle 1 pace 1;", 1, 5);
+    error("hand needle 1 pace 1;", 1, 5);
+    error("card ply 1 yards 1 price 1;", 1, 5);
+    error("jersey cloth 1 elbows 1;", 1, 7);
+    error("ticket for j darn 1 by 1 at 0 on 0 with c;", 1, 7);
+    error("ticket t for darn 1 by 1 at 0 on 0 with c;", 1, 13);
     error("hand max needle 1 pace 1;", 1, 5);
     fits("hand maxi needle 1 pace 1;");
     fits("card c ply 9 yards 999 price 20;");
@@ -422,6 +428,10 @@ public final class LanguageTest {
     holds("(32768 * 65536 - 1) + 1 = 32768 * 65536", true);
     holds("min(3, 4) = 3 and min(4, 3) = 3 and min(-4, 3) = -4", true);
     holds("max(3, 4) = 4 and max(4, 3) = 4 and max(-4, 3) = 3", true);
+    holds("min(3, 4) = 4", false);
+    holds("max(3, 4) = 3", false);
+    holds("5 = min(3, 4) + 2", true);
+    holds("5 = max(3, 4) + 2", false);
     holds("1 < 1", false);
     holds("1 < 2", true);
     holds("2 < 1", false);
@@ -446,6 +456,12 @@ public final class LanguageTest {
     holds("1 = 2 and 1 = 1 or 1 = 1", true);
     holds("not 1 = 2", true);
     holds("not not 1 = 2", false);
+    String[] hold = {"1 < 2", "2 > 1", "1 = 1", "1 <= 2", "2 >= 1", "free h"};
+    for (String left : hold) {
+      holds("not " + left, false);
+      holds("not not " + left, true);
+      for (String right : hold) holds(left + " and " + right, true);
+    }
     holds("not 1 = 2 and 1 = 2", false);
     holds("not [1 = 2 and 1 = 2]", true);
     holds("not 1 = 1 or 1 = 1", true);
@@ -473,5 +489,15 @@ public final class LanguageTest {
     due.is("no hole ahead of hour 12", worn.ticket(0, 0), 0);
     worn.pass(1);
     due.is("all holes in hour 12", worn.ticket(0, 4), 12);
+  }
+
+  private static void operandsOfTheFirst() {
+    DarnRoom room = Due.taught(THINGS + "ticket a for j when holes j = 48 and thin j = 0 " + STEP + ";");
+    room.wear(0, 1);
+    room.pass(1);
+    due.is("the ticket waits", room.ticket(0, 0), 0);
+    room.wear(0, 1);
+    room.pass(1);
+    due.is("the ticket is done", room.ticket(0, 0), 2);
   }
 }

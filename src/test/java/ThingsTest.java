@@ -23,6 +23,7 @@ public final class ThingsTest {
     hurriedOrder();
     wearing();
     wearingHoles();
+    wearingBesideOne();
     notWorn();
     due.end("ThingsTest");
   }
@@ -218,6 +219,20 @@ public final class ThingsTest {
     cells(room, 0, "0 1 5 5 5 5 5 5", "1 5 5 5 5 5 5 5", fives, fives, fives, fives);
     due.is("wear(0, 1)", room.wear(0, 1), 3);
     cells(room, 0, "0 0 4 4 4 4 4 4", "0 4 4 4 4 4 4 4", "4 4 4 4 4 4 4 4", "4 4 4 4 4 4 4 4", "4 4 4 4 4 4 4 4", "4 4 4 4 4 4 4 4");
+  }
+
+  /** A single hole makes its four sides thinner, and no other cell. */
+  private static void wearingBesideOne() {
+    DarnRoom room = HolesTest.cloth("........", "........", "........", "....o...");
+    String nines = "9 9 9 9 9 9 9 9";
+    cells(room, 0, nines, nines, nines, "9 9 9 9 0 9 9 9", nines, nines);
+    due.is("wear(0, 1)", room.wear(0, 1), 1);
+    String eights = "8 8 8 8 8 8 8 8";
+    String beside = "8 8 8 8 7 8 8 8";
+    cells(room, 0, eights, eights, beside, "8 8 8 7 0 7 8 8", beside, eights);
+    DarnRoom corner = HolesTest.cloth("........", ".......o");
+    corner.wear(0, 1);
+    cells(corner, 0, "8 8 8 8 8 8 8 7", "8 8 8 8 8 8 7 0", "8 8 8 8 8 8 8 7", eights, eights, eights);
   }
 
   private static void notWorn() {
