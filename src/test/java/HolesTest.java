@@ -119,6 +119,8 @@ public final class HolesTest {
     tells(cloth("o......."), "the first cell", 1, 11);
     tells(cloth("........", "........", "........", "........", "........", ".......o"), "the last cell", 1, 7511);
     tells(cloth("...o....", "...o....", ".ooo...."), "a way left", 5, 1033);
+    tells(cloth("...o....", "..oo...."), "one left", 3, 2022);
+    tells(cloth("o.o.....", "ooo....."), "one up", 5, 32);
     tells(cloth("o.o.....", "o.o.....", "ooo....."), "a way up", 7, 33);
     tells(cloth(".ooo....", ".o.o....", "...oo..."), "ways right and down", 7, 1043);
     tells(cloth(".......o", "........", "oo......", "........"), "a small one right, a greater one left", 2, 221);
