@@ -9,10 +9,23 @@ final class Due {
 
   private int calls = 0;
   private int wrong = 0;
+  private int sentences = 0;
+  private String sentence = "";
+
+  /** The sentence of the document that the calls from here on look at: it is told with what is wrong. */
+  void says(String words) {
+    sentence = words;
+    sentences++;
+  }
 
   void is(String call, long got, long want) {
     calls++;
     if (got != want) say(call + " answered " + got + ", due is " + want);
+  }
+
+  void holds(String what, boolean isSo) {
+    calls++;
+    if (!isSo) say(what + " does not hold");
   }
 
   void isD(String call, double got, double want) {
@@ -41,11 +54,12 @@ final class Due {
 
   void say(String what) {
     wrong++;
-    System.out.println(what);
+    System.out.println(what + (sentence.isEmpty() ? "" : "; the document says: " + sentence));
   }
 
   void end(String test) {
-    System.out.println(test + ": " + calls + " calls looked at, " + wrong + " wrong");
+    String of = sentences == 0 ? "" : " for " + sentences + " sentences";
+    System.out.println(test + ": " + calls + " calls looked at" + of + ", " + wrong + " wrong");
     if (wrong != 0) System.exit(1);
   }
 
