@@ -94,7 +94,8 @@ final class Due {
 
   static String paper(DarnRoom room) {
     StringBuilder text = new StringBuilder();
-    for (int i = 0; i < room.count(10); i++) text.append((char) room.byteAt(i));
+    int many = room.count(10);
+    for (int i = 0; i < many; i++) text.append((char) room.byteAt(i));
     return text.toString();
   }
 }

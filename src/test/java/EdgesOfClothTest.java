@@ -303,14 +303,13 @@ public final class EdgesOfClothTest {
     // An hour without stitches, so that the last one is not made in an hour in which the jersey is worn.
     due.is("the hour 0", room.pass(1), 0);
     List<Integer> order = order(needle, left, top, wide, high);
-    int[] thick = new int[48];
-    java.util.Arrays.fill(thick, 5);
     for (int i = 0; i < order.size(); i++) {
+      int x = order.get(i) % 8;
+      int y = order.get(i) / 8;
+      due.is("cell " + order.get(i) + " ahead of stitch " + i + " of needle " + needle, room.cell(0, x, y), 5);
       due.is("a stitch", room.pass(1), 1);
-      thick[order.get(i)] = 8;
-      for (int cell = 0; cell < 48; cell++) {
-        due.is("cell " + cell + " behind stitch " + i + " of needle " + needle, room.cell(0, cell % 8, cell / 8), thick[cell]);
-      }
+      due.is("cell " + order.get(i) + " behind stitch " + i + " of needle " + needle, room.cell(0, x, y), 8);
+      due.is("all cells", room.jersey(0, 3), 48 * 5 + 3 * (i + 1));
     }
     due.is("ticket(0, 4)", room.ticket(0, 4), order.size());
   }
