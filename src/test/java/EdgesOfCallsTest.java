@@ -559,7 +559,7 @@ public final class EdgesOfCallsTest {
     due.says("A method that throws an exception changes nothing.");
     DarnRoom room = working();
     DarnRoom plain = working();
-    for (int i = 0; i < 12; i++) {
+    for (int i = 0; i < 7; i++) {
       due.refuses(room, "wind(0, 501)", NO_ARGUMENT, () -> room.wind(0, 501));
       due.refuses(room, "wind(2, 500)", NO_INDEX, () -> room.wind(2, 500));
       due.refuses(room, "hurry(0)", NO_STATE, () -> room.hurry(0));

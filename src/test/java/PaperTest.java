@@ -85,31 +85,41 @@ public final class PaperTest {
     due.is("pass()", room.pass(names.length), names.length);
   }
 
-  private static void filling() {
+  /** A paper with 390 bytes; an object is made for each look at it, as one is used for 512 calls at most. */
+  private static DarnRoom filled(StringBuilder want) {
     DarnRoom room = new DarnRoom();
-    StringBuilder want = new StringBuilder();
     for (int i = 0; i < 3; i++) {
       String[] names = new String[10];
       for (int n = 0; n < 10; n++) names[n] = "abcdefgh" + i + n;
       write(room, names);
       for (String name : names) want.append(name + " 3\n");
     }
-    reads(room, want.toString());
-    // 390 bytes are written: ten are left.
-    write(room, "toolonga", "seven77", "x");
-    reads(room, want + "seven77 3\n");
-    due.is("byteAt(399)", room.byteAt(399), 10);
-    due.is("clear() of the full paper", room.clear(), 400);
-    write(room, "x");
-    reads(room, "x 3\n");
-    DarnRoom skipped = new DarnRoom();
-    for (int i = 0; i < 3; i++) {
-      String[] names = new String[10];
-      for (int n = 0; n < 10; n++) names[n] = "abcdefgh" + i + n;
-      write(skipped, names);
-    }
-    write(skipped, "toolonga", "ab", "y", "x");
-    reads(skipped, want + "ab 3\ny 3\n");
+    return room;
+  }
+
+  private static void filling() {
+    StringBuilder want = new StringBuilder();
+    DarnRoom room = filled(want);
+    due.holds("the paper is " + want, Due.paper(room).equals(want.toString()));
+    tail("seven77 3\n", "toolonga", "seven77", "x");
+    tail("ab 3\ny 3\n", "toolonga", "ab", "y", "x");
+    tail("inebyte 3\n", "inebyte");
+    tail("", "tenbytes", "ninebytes");
+    DarnRoom full = filled(new StringBuilder());
+    write(full, "seven77");
+    due.is("byteAt(399)", full.byteAt(399), 10);
+    due.is("clear() of the full paper", full.clear(), 400);
+    write(full, "x");
+    reads(full, "x 3\n");
+  }
+
+  /** What stands behind the first 390 bytes, if slips of some names are to be written there. */
+  private static void tail(String want, String... names) {
+    DarnRoom room = filled(new StringBuilder());
+    write(room, names);
+    due.is("count(10)", room.count(10), 390 + want.length());
+    for (int i = 0; i < want.length(); i++) due.is("byteAt(" + (390 + i) + ")", room.byteAt(390 + i), want.charAt(i));
+    due.refuses(room, "byteAt behind the paper", NO_INDEX, () -> room.byteAt(390 + want.length()));
   }
 
   private static void mean() {
@@ -132,15 +142,14 @@ public final class PaperTest {
   }
 
   private static void digest() {
-    DarnRoom room = Due.taught(THINGS + "hand g needle 2 pace 1;jersey k cloth 2 elbows 1;jersey l cloth 1 elbows 0;"
-        + "ticket a for j darn 3 by 1 at 0 on 0 with c;ticket b for k darn 8 by 6 at 0 on 0 with d then darn 1 by 1 at 0 on 0 with c;"
-        + "ticket e for j when hour > 20 darn 2 by 2 at 0 on 0 with d;");
-    due.is("digest() at first", room.digest(), digestOf(room));
-    for (int i = 1; i <= 30; i++) {
-      room.pass(1);
-      if (i == 5) room.feed(1, 2, 3, 4, 5);
-      if (i == 25) room.clear();
-      due.is("digest() in hour " + i, room.digest(), digestOf(room));
+    for (int hours = 0; hours <= 30; hours++) {
+      DarnRoom room = Due.taught(THINGS + "hand g needle 2 pace 1;jersey k cloth 2 elbows 1;jersey l cloth 1 elbows 0;"
+          + "ticket a for j darn 3 by 1 at 0 on 0 with c;ticket b for k darn 8 by 6 at 0 on 0 with d then darn 1 by 1 at 0 on 0 with c;"
+          + "ticket e for j when hour > 20 darn 2 by 2 at 0 on 0 with d;");
+      if (hours > 0) room.pass(hours);
+      if (hours >= 5) room.feed(1, 2, 3, 4, 5);
+      if (hours >= 25) room.clear();
+      due.is("digest() in hour " + hours, room.digest(), digestOf(room));
     }
     due.is("a digest by hand", Due.taught("").digest(), 751L * 31 * 31 * 31 * 31 * 31 * 31 * 31 * 31 * 31 * 31 * 31 * 31);
   }
