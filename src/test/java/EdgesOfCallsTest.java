@@ -448,6 +448,16 @@ public final class EdgesOfCallsTest {
     due.refuses(room, "wear(-1, 1)", NO_INDEX, () -> room.wear(-1, 1));
     due.refuses(room, "wear(1, 1), under a hand", NO_STATE, () -> room.wear(1, 1));
     due.refuses(room, "wear(1, 20), under a hand", NO_STATE, () -> room.wear(1, 20));
+    DarnRoom four = Due.taught("card c ply 1 yards 0 price 1;hand a needle 1 pace 1;hand b needle 1 pace 1;hand d needle 1 pace 1;"
+        + "hand e needle 1 pace 1;jersey j cloth 9 elbows 0;jersey k cloth 9 elbows 0;jersey l cloth 9 elbows 0;jersey m cloth 9 elbows 0;"
+        + "ticket t for j " + Rooms.STEP + ";ticket u for k " + Rooms.STEP + ";ticket v for l " + Rooms.STEP + ";ticket w for m "
+        + Rooms.STEP + ";");
+    four.pass(1);
+    for (int j = 0; j < 4; j++) {
+      int under = j;
+      due.is("jersey(" + j + ", 2)", four.jersey(j, 2), j);
+      due.refuses(four, "wear(" + j + ", 1) under the hand " + j, NO_STATE, () -> four.wear(under, 1));
+    }
     due.is("wear(0, 1), its ticket is done", room.wear(0, 1), 0);
     due.is("wear(2, 20), its tickets wait", room.wear(2, 20), 48);
   }

@@ -398,6 +398,9 @@ public final class EdgesOfHoursTest {
     due.is("worn, the ticket is taken and done in hour 11", worn(11, 1), 1);
     due.is("worn, the ticket is taken in hour 11", worn(11, 2), 0);
     due.is("worn, the ticket waits for hour 12", worn(12, 2), 1);
+    DarnRoom four = Due.taught("card c ply 1 yards 0 price 1;" + JERSEYS + hands(4, 1) + tickets("mlkj", 1));
+    four.pass(12);
+    for (int j = 0; j < 5; j++) due.is("jersey(" + j + ", 3), four of them under hands", four.jersey(j, 3), j == 4 ? 8 * 48 : 9 * 48);
     DarnRoom woolless = Due.taught("card c ply 1 yards 0 price 1;" + JERSEYS + hands(1, 1) + tickets("j", 1));
     woolless.pass(120);
     due.is("jersey(0, 3), always under a hand", woolless.jersey(0, 3), 9 * 48);

@@ -20,6 +20,9 @@ public final class EdgesOfSlipsTest {
     thin();
     stitches();
     free();
+    eachOfThem();
+    comparisons();
+    lessAndMore();
     both();
     bindsMore();
     due.end("EdgesOfSlipsTest");
@@ -234,6 +237,63 @@ public final class EdgesOfSlipsTest {
     due.is("free g behind it", hourOf(things, "free g and hour > 0"), 3);
     due.is("free h, that takes it", hourOf(things, "not free g and free h"), 1);
     due.is("not free h", hourOf(things, "not free h"), -1);
+  }
+
+  private static void eachOfThem() {
+    due.says("wool the yards of a card, holes how many holes a jersey has, thin how thick its thinnest cell is, stitches those of a ticket so far");
+    StringBuilder things = new StringBuilder(HAND.replace("pace 9", "pace 1"));
+    for (int i = 0; i < 6; i++) {
+      things.append("card c" + i + " ply 1 yards " + (100 + i) + " price 1;jersey j" + i + " cloth " + (9 + i) + " elbows 0;");
+    }
+    things.append("hand g needle 1 pace 1;");
+    // Each of the tickets has one stitch more than the one ahead of it, and all are done in hour 10.
+    for (int i = 0; i < 5; i++) things.append("ticket t" + i + " for j5 darn " + i + " by 1 at 0 on 0 with c5;");
+    String step = " darn 0 by 1 at 0 on 0 with c0;";
+    for (int i = 0; i < 6; i++) {
+      StringBuilder text = new StringBuilder(things);
+      text.append("ticket u for j0 when wool c" + i + " = " + (100 + i) + step + "ticket v for j1 when thin j" + i + " = " + (9 + i) + step);
+      text.append("ticket w for j2 when holes j" + i + " = 0" + step);
+      DarnRoom room = Due.taught(text.toString());
+      room.pass(9);
+      for (int t = 5; t < 8; t++) due.is("ticket(" + t + ", 0) of the things " + i, room.ticket(t, 0), 2);
+    }
+    for (int i = 0; i < 5; i++) {
+      String test = "hour = 11 and stitches t" + i + " = " + i;
+      DarnRoom room = Due.taught(things + "ticket u for j0 when " + test + step);
+      room.pass(12);
+      due.is("stitches of ticket " + i, room.ticket(5, 0), 2);
+    }
+  }
+
+  private static void comparisons() {
+    due.says("sum ( < | > | = | <= | >= ) sum");
+    int[] numbers = {Integer.MIN_VALUE, Integer.MIN_VALUE + 1, -1, 0, 1, 2, Integer.MAX_VALUE - 1, Integer.MAX_VALUE};
+    for (int left : numbers) {
+      for (int right : numbers) {
+        String a = Rooms.sumOf(left);
+        String b = Rooms.sumOf(right);
+        due.holds(left + " < " + right, Rooms.holds(a + " < " + b) == left < right);
+        due.holds(left + " > " + right, Rooms.holds(a + " > " + b) == left > right);
+        due.holds(left + " = " + right, Rooms.holds(a + " = " + b) == (left == right));
+        due.holds(left + " <= " + right, Rooms.holds(a + " <= " + b) == left <= right);
+        due.holds(left + " >= " + right, Rooms.holds(a + " >= " + b) == left >= right);
+        due.holds("not " + left + " < " + right, Rooms.holds("not " + a + " < " + b) == left >= right);
+        due.holds("not " + left + " <= " + right, Rooms.holds("not " + a + " <= " + b) == left > right);
+        due.holds("not " + left + " >= " + right, Rooms.holds("not " + a + " >= " + b) == left < right);
+      }
+    }
+  }
+
+  private static void lessAndMore() {
+    due.says("( min | max ) ( sum , sum )");
+    int[] numbers = {Integer.MIN_VALUE, -1, 0, 1, Integer.MAX_VALUE};
+    for (int left : numbers) {
+      for (int right : numbers) {
+        String both = "(" + Rooms.sumOf(left) + "," + Rooms.sumOf(right) + ")";
+        due.holds("min of " + left + " and " + right, Rooms.holds("min" + both + " = " + Rooms.sumOf(Math.min(left, right))));
+        due.holds("max of " + left + " and " + right, Rooms.holds("max" + both + " = " + Rooms.sumOf(Math.max(left, right))));
+      }
+    }
   }
 
   private static void both() {
