@@ -33,6 +33,7 @@ public final class EdgesOfCallsTest {
     windRefuses();
     hand();
     handWithout();
+    handStitches();
     cell();
     jersey();
     jerseyUnderNone();
@@ -328,6 +329,22 @@ public final class EdgesOfCallsTest {
     }
   }
 
+  private static void handStitches() {
+    due.says("5 stitches in all");
+    DarnRoom room = Due.taught("card c ply 1 yards 99 price 1;hand h needle 1 pace 4;hand g needle 1 pace 3;jersey j cloth 9 elbows 0;"
+        + "jersey k cloth 9 elbows 0;ticket t for j darn 5 by 1 at 0 on 0 with c then darn 2 by 1 at 0 on 0 with c;"
+        + "ticket u for j darn 2 by 1 at 0 on 0 with c;ticket v for k darn 1 by 1 at 0 on 0 with c;ticket w for k darn 4 by 1 at 0 on 0 with c;");
+    int[][] stitches = {{0, 0}, {4, 1}, {7, 4}, {9, 5}, {9, 5}};
+    for (int hour = 0; hour < stitches.length; hour++) {
+      for (int h = 0; h < 2; h++) due.is("hand(" + h + ", 5) in hour " + hour, room.hand(h, 5), stitches[hour][h]);
+      room.done(3);
+      room.pass(1);
+    }
+    // Another bundle tells other hands, also if they have the same names.
+    Due.teach(room, "hand h needle 1 pace 4;");
+    due.is("hand(0, 5) of another bundle", room.hand(0, 5), 0);
+  }
+
   private static void cell() {
     due.says("Throws IndexOutOfBoundsException if there is no such jersey, x is not 0 to 7, or y is not 0 to 5");
     DarnRoom room = working();
@@ -518,6 +535,8 @@ public final class EdgesOfCallsTest {
     due.is("patch(0), the last one is as great", HolesTest.cloth("ooo.....", "........", "oo...ooo").patch(0), 31);
     // The first hole of the one below stands left of the first one of the other, but in a later row.
     due.is("patch(0), its first hole is above", HolesTest.cloth(".......o", "o......o", "o.......").patch(0), 7012);
+    due.is("patch(0), the second one needs less", HolesTest.cloth("oo......", "o.......", ".....ooo").patch(0), 22);
+    due.is("patch(0), the second one needs more", HolesTest.cloth("ooo.....", "......oo", "......o.").patch(0), 31);
   }
 
   private static void pass() {

@@ -398,6 +398,13 @@ public final class EdgesOfHoursTest {
     due.is("worn, the ticket is taken and done in hour 11", worn(11, 1), 1);
     due.is("worn, the ticket is taken in hour 11", worn(11, 2), 0);
     due.is("worn, the ticket waits for hour 12", worn(12, 2), 1);
+    DarnRoom handless = Due.taught(WOOL + JERSEYS + tickets("jk", 1));
+    handless.pass(12);
+    for (int j = 0; j < 3; j++) due.is("jersey(" + j + ", 3), whose ticket waits", handless.jersey(j, 3), 8 * 48);
+    DarnRoom busy = Due.taught(WOOL + JERSEYS + hands(1, 1) + tickets("jjk", 8));
+    busy.pass(12);
+    due.is("jersey(0, 3), under the hand", busy.jersey(0, 3), 9 * 48 + 12);
+    due.is("jersey(1, 3), whose ticket waits for the hand", busy.jersey(1, 3), 8 * 48);
     DarnRoom four = Due.taught("card c ply 1 yards 0 price 1;" + JERSEYS + hands(4, 1) + tickets("mlkj", 1));
     four.pass(12);
     for (int j = 0; j < 5; j++) due.is("jersey(" + j + ", 3), four of them under hands", four.jersey(j, 3), j == 4 ? 8 * 48 : 9 * 48);

@@ -20,6 +20,7 @@ public final class EdgesOfSlipsTest {
     thin();
     stitches();
     free();
+    asTheyAreNow();
     eachOfThem();
     comparisons();
     lessAndMore();
@@ -237,6 +238,35 @@ public final class EdgesOfSlipsTest {
     due.is("free g behind it", hourOf(things, "free g and hour > 0"), 3);
     due.is("free h, that takes it", hourOf(things, "not free g and free h"), 1);
     due.is("not free h", hourOf(things, "not free h"), -1);
+    // The hand g takes u, whose first step has no cells: it has a ticket, though nothing to weave, as the hand h looks.
+    String idle = WOOL + "hand g needle 1 pace 4;" + HAND + JERSEYS + "ticket u for j darn 0 by 1 at 0 on 0 with c;";
+    due.is("not free g, that has no cells to weave", hourOf(idle, "not free g"), 0);
+    due.is("free g, that has no cells to weave", hourOf(idle, "free g"), 1);
+  }
+
+  /** How many cells the second step of a ticket for j has, behind a first one of 1 cell a stitch. */
+  private static int cellsOfSecond(DarnRoom room, int hours) {
+    room.pass(hours);
+    due.is("hand(0, 3)", room.hand(0, 3), 1);
+    return room.hand(0, 4);
+  }
+
+  private static void asTheyAreNow() {
+    due.says("wool the yards of a card, holes how many holes a jersey has, thin how thick its thinnest cell is, as a later step begins");
+    String before = "card c ply 1 yards 60 price 3;hand g needle 1 pace 4;" + HAND + "jersey j cloth 1 elbows 0;jersey k cloth 1 elbows 0;ticket t for j ";
+    DarnRoom holes = Due.taught(before + "darn 4 by 1 at 0 on 0 with c then darn 8 by holes j - 43 at 0 on 1 with c;");
+    holes.wear(0, 1);
+    due.is("cells of holes j - 43, with 44 holes", cellsOfSecond(holes, 1), 8);
+    DarnRoom wool = Due.taught(before + "darn 4 by 1 at 0 on 0 with c then darn 8 by wool c - 55 at 0 on 1 with c;");
+    due.is("cells of wool c - 55, with 56 yards", cellsOfSecond(wool, 1), 8);
+    DarnRoom thin = Due.taught(before + "darn 8 by 6 at 0 on 0 with c then darn thin j by 1 at 0 on 1 with c;");
+    due.is("cells of thin j of 1 and more", cellsOfSecond(thin, 12), 2);
+    // The hand h is behind the hand g, and sees what it has woven in this hour.
+    DarnRoom others = Due.taught(before + "darn 8 by 1 at 0 on 0 with c;ticket u for k darn 0 by 1 at 0 on 0 with c"
+        + " then darn stitches t - 2 by holes j - 42 at 0 on 1 with c;");
+    others.wear(0, 1);
+    others.pass(1);
+    due.is("ticket(1, 2), 2 by 2 cells", others.ticket(1, 2), 4);
   }
 
   private static void eachOfThem() {
