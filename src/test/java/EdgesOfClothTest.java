@@ -16,9 +16,11 @@ public final class EdgesOfClothTest {
     elbows();
     besideEachOther();
     besideSeveral();
+    oneThinner();
     atLeastNothing();
     cellsBeside();
     cellsBelow();
+    holesAndOthers();
     asFarAsTheCloth();
     doesNotWrapAround();
     noneIfNothingOrLess();
@@ -160,6 +162,23 @@ public final class EdgesOfClothTest {
     }
   }
 
+  /** A cell that some stitches made as thick as this is worn once. */
+  private static void wornOnce(int cloth, int ply, int stitches, int thick) {
+    DarnRoom room = Due.taught("card c ply " + ply + " yards 9 price 1;hand h needle 1 pace 9;jersey j cloth " + cloth
+        + " elbows 0;ticket t for j darn 1 by 1 at 4 on 5 with c" + Rooms.times(stitches - 1, " then darn 1 by 1 at 4 on 5 with c") + ";");
+    room.pass(1);
+    due.is("cell(0, 4, 5)", room.cell(0, 4, 5), thick);
+    room.wear(0, 1);
+    due.is("cell(0, 4, 5) of " + thick + ", worn", room.cell(0, 4, 5), thick - 1);
+  }
+
+  private static void oneThinner() {
+    due.says("each cell that is no hole is 1 thinner");
+    for (int thick = 2; thick <= 29; thick++) wornOnce(Math.max(1, thick - 9), Math.min(9, thick - 1), 1, thick);
+    wornOnce(20, 5, 2, 30);
+    wornOnce(20, 9, 6, 30);
+  }
+
   private static void atLeastNothing() {
     due.says("each cell that is no hole is 1 thinner ... (at least 0)");
     for (int cloth = 1; cloth <= 6; cloth++) {
@@ -209,6 +228,22 @@ public final class EdgesOfClothTest {
     for (int top = -4; top <= 7; top++) {
       for (int high = 1; high <= 10; high++) {
         darns("1", "" + high, "6", "0" + (top < 0 ? "" + top : "+" + top), 6, 6, Math.max(0, top), Math.min(5, top + high - 1));
+      }
+    }
+  }
+
+  private static void holesAndOthers() {
+    due.says("A step darns the cells, whether they are holes or not");
+    DarnRoom room = Due.taught("card c ply 9 yards 99 price 1;card d ply 2 yards 99 price 1;hand h needle 1 pace 9;jersey j cloth 1 elbows 0;"
+        + "ticket t for j darn 4 by 1 at 0 on 0 with c;ticket u for j when holes j = 44 darn 6 by 2 at 1 on 0 with d;");
+    room.pass(1);
+    due.is("wear(0, 1)", room.wear(0, 1), 44);
+    due.is("pass(2)", room.pass(2), 12);
+    due.is("ticket(1, 0)", room.ticket(1, 0), 2);
+    for (int y = 0; y < 6; y++) {
+      for (int x = 0; x < 8; x++) {
+        int before = y == 0 && x < 4 ? 9 : 0;
+        due.is("cell(0, " + x + ", " + y + ")", room.cell(0, x, y), y < 2 && x > 0 && x < 7 ? before + 2 : before);
       }
     }
   }
